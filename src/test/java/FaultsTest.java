@@ -7,6 +7,7 @@ public final class FaultsTest {
         tooMany();
         leastOfOneToken();
         whole();
+        everyWord();
         everyCut();
         everyByte();
         Check.finish();
@@ -28,6 +29,8 @@ public final class FaultsTest {
         fault("Wed a b;", 1, 0);
         fault("wEd a b;", 1, 0);
         fault("wed aB b;", 1, 4);
+        fault("wed aA b;", 1, 4);
+        fault("wed aZ b;", 1, 4);
         fault("wed a1 b;", 1, 4);
         fault("wed 1a b;", 1, 4);
         fault("turns0: a 1;", 1, 0);
@@ -138,6 +141,19 @@ public final class FaultsTest {
         Check.due("800 bytes", Check.read(x, " ".repeat(799) + "w"), -1 - 799);
         Check.due("800 letters", Check.read(x, "w".repeat(800)), -1);
         Check.due("800 letters", x.fault(), 2);
+    }
+
+    /** A word with one other letter is another word. */
+    private static void everyWord() {
+        String text = "turns 0: a 1; guest d at 0 of a 15; wed b e; drought 0 below 30 c; dry 1 to 0;";
+        for (String word : new String[] {"turns", "guest", "at", "of", "wed", "drought", "below", "dry", "to"}) {
+            int place = (" " + text).indexOf(" " + word + " ");
+            for (int i = 0; i < word.length(); i++) {
+                fault(text.substring(0, place + i) + "x" + text.substring(place + i + 1), 2, place);
+            }
+            fault(text.substring(0, place) + word + "s" + text.substring(place + word.length()), 2, place);
+            fault(text.substring(0, place) + word.substring(1) + text.substring(place + word.length()), 2, place);
+        }
     }
 
     /** Each text that ends too early has its fault at its end, or none where a rule has ended. */

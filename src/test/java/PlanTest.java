@@ -14,6 +14,7 @@ public final class PlanTest {
         kinAndDry();
         droughtOfThePlan();
         herdsShareWater();
+        waterComesBack();
         lentDays();
         realLevelIsWhereItBegins();
         stepsStay();
@@ -239,6 +240,23 @@ public final class PlanTest {
         x.herd(2, 0, 10, 2, 0);
         plan(x, 3, 50000, 1);
         due("far", x.far(), 2);
+    }
+
+    /** What the last herd drank on a bad day is there again for what it does next. */
+    private static void waterComesBack() {
+        WellCourt x = Check.courtWith("turns 0: a 1;");
+        x.well(0, 100, 0, 30);
+        x.well(1, 100, 0, 0);
+        x.way(1, 0, 1);
+        x.herd(0, 0, 10, 1, 1);
+        x.herd(3, 0, 10, 2, 0);
+        // herd 0 must go on the first day; the bad second day is tried by all that herd 3 can do
+        plan(x, 3, 50000, 0);
+        steps(x, 0, 1, "201");
+        steps(x, 3, 1, "001");
+        // 1 and 0; 1(bad) and 0, 1; 2(bad) and 0, 1; on the first day 3 stays, the same again;
+        // 0 goes, 3 drinks; two drinks; no water: two stay
+        due("looks", x.count(6), 2 + 3 + 3 + 1 + 3 + 3 + 2 + 2 + 2);
     }
 
     private static void lentDays() {

@@ -11,6 +11,8 @@ public final class PromisesTest {
         promise4();
         promise5();
         promise5Owners();
+        promise5NothingIsLeft();
+        promise5TwentyOfAKind();
         promise6();
         promise7();
         promise7Drought();
@@ -170,6 +172,39 @@ public final class PromisesTest {
         due("5 what was given back is forgotten", x.owner(0, 17), 3);
         due("5 without turns ahead", x.owner(3, 7), 3);
         due("5 without turns behind", x.owner(3, 8), NONE);
+    }
+
+    /** Read thrice: what any earlier text said is gone, not only what the latest one said. */
+    private static void promise5NothingIsLeft() {
+        WellCourt x = new WellCourt();
+        x.well(0, 10, 0, 0);
+        x.well(1, 10, 0, 10);
+        due("5 without rights none is right", x.may(0, 0), 0);
+        due("5 rich", Check.read(x, "turns 0: a 1; turns 1: b 1; drought 0 below 1 c; wed b d; dry 0 to 1; guest e at 1 of b 1;"), 6);
+        due("5 drought", x.owner(0, 0), 2);
+        due("5 wed", x.may(1, 3), 1);
+        due("5 dry", x.may(1, 2), 1);
+        due("5 guest", x.may(1, 4), 2);
+        for (int i = 0; i < 3; i++) {
+            due("5 poor", Check.read(x, "turns 0: a 1; turns 1: b 1;"), 2);
+            due("5 no drought", x.owner(0, 0), 0);
+            due("5 not wed", x.may(1, 3), 0);
+            due("5 not dry", x.may(1, 0), 0);
+            due("5 no guest", x.may(1, 4), 0);
+        }
+    }
+
+    /** Twenty rules of one kind, of which the last alone says something. */
+    private static void promise5TwentyOfAKind() {
+        WellCourt x = new WellCourt();
+        x.well(0, 10, 0, 5);
+        x.well(1, 10, 0, 5);
+        due("5 droughts", Check.read(x, "drought 0 below 0 a;".repeat(19) + "drought 0 below 6 f;"), 20);
+        due("5 the last drought", x.owner(0, 0), 5);
+        due("5 guests", Check.read(x, "turns 1: b 1;" + "guest a at 0 of b 1;".repeat(18) + "guest e at 1 of b 3;"), 20);
+        due("5 the last guest", x.may(1, 4), 2);
+        due("5 its many", x.draw(1, 4, 4), 3);
+        due("5 its many", x.draw(1, 4, 3), 0);
     }
 
     private static void promise6() {
@@ -455,6 +490,9 @@ public final class PromisesTest {
         due("15 no more", Check.drawn(x, 300, 2), Check.THROWS);
         due("14 the last one", x.report(299), true);
         due("16 all", x.judge(1, 0, 0, 0, 0), 150);
+        due("16 known", x.judge(1, 0, 0, 0, 2), 1);
+        due("16 fine", x.judge(1, 0, 0, 0, 3), 2);
+        due("16 fine", x.judge(0, 0, 0, 0, 3), 0);
     }
 
     private static void promise13() {
