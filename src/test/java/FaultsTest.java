@@ -14,8 +14,8 @@ public final class FaultsTest {
     }
 
     private static void fault(String text, int kind, int place) {
-        WellCourt x = Check.courtWith("turns 5: f 1; wed a b; wed b c;");
-        Check.due("rights of '" + text + "'", Check.read(x, text), -1 - place);
+        Court x = Court.with("turns 5: f 1; wed a b; wed b c;");
+        Check.due("rights of '" + text + "'", x.read(text), -1 - place);
         Check.due("fault of '" + text + "'", x.fault(), kind);
         Check.due("rules stay", x.count(2), 3);
         Check.due("owners stay", x.owner(5, 7), 5);
@@ -125,21 +125,21 @@ public final class FaultsTest {
     }
 
     private static void whole() {
-        WellCourt x = new WellCourt();
-        Check.due("eight clans", Check.read(x, "turns 0: a 1,b 1,c 1,d 1,e 1,f 1,a 1,b 1;"), 1);
+        Court x = new Court();
+        Check.due("eight clans", x.read("turns 0: a 1,b 1,c 1,d 1,e 1,f 1,a 1,b 1;"), 1);
         Check.due("the eighth", x.owner(0, 7), 1);
         Check.due("and again", x.owner(0, 8), 0);
-        Check.due("twenty rules", Check.read(x, "wed a b;".repeat(20) + " \n"), 20);
-        Check.due("all edges", Check.read(x, "turns 0: a 9; turns 5: f 1; guest a at 5 of f 1000; drought 5 below 0 a; drought 0 below 1000 f; dry 0 to 5;"), 6);
-        Check.due("many turns", Check.read(x, "turns 0:a 1;turns 1:a 1;turns 2:a 1;turns 3:a 1;turns 4:a 1;turns 5:a 1;"), 6);
-        Check.due("a fault leaves no trace for the next text", Check.read(x, "turns 3: b 1; wed"), -18);
-        Check.due("a fault leaves no trace for the next text", Check.read(x, "turns 3: c 1;"), 1);
+        Check.due("twenty rules", x.read("wed a b;".repeat(20) + " \n"), 20);
+        Check.due("all edges", x.read("turns 0: a 9; turns 5: f 1; guest a at 5 of f 1000; drought 5 below 0 a; drought 0 below 1000 f; dry 0 to 5;"), 6);
+        Check.due("many turns", x.read("turns 0:a 1;turns 1:a 1;turns 2:a 1;turns 3:a 1;turns 4:a 1;turns 5:a 1;"), 6);
+        Check.due("a fault leaves no trace for the next text", x.read("turns 3: b 1; wed"), -18);
+        Check.due("a fault leaves no trace for the next text", x.read("turns 3: c 1;"), 1);
         Check.due("a fault leaves no trace for the next text", x.owner(3, 0), 2);
-        Check.due("breaks between", Check.read(x, "turns\n0\n:\na\n1\n,\nb\n2\n;"), 1);
+        Check.due("breaks between", x.read("turns\n0\n:\na\n1\n,\nb\n2\n;"), 1);
         String full = "wed a b;" + " ".repeat(792);
-        Check.due("800 bytes", Check.read(x, full), 1);
-        Check.due("800 bytes", Check.read(x, " ".repeat(799) + "w"), -1 - 799);
-        Check.due("800 letters", Check.read(x, "w".repeat(800)), -1);
+        Check.due("800 bytes", x.read(full), 1);
+        Check.due("800 bytes", x.read(" ".repeat(799) + "w"), -1 - 799);
+        Check.due("800 letters", x.read("w".repeat(800)), -1);
         Check.due("800 letters", x.fault(), 2);
     }
 
@@ -164,8 +164,8 @@ public final class FaultsTest {
             boolean inWord = size > 0 && size < text.length() && cut.charAt(size - 1) != ' ' && text.charAt(size) != ' ';
             String bare = cut.trim();
             if (bare.isEmpty() || bare.endsWith(";")) {
-                WellCourt x = new WellCourt();
-                Check.due("whole rules of '" + cut + "'", Check.read(x, cut), bare.length() - bare.replace(";", "").length());
+                Court x = new Court();
+                Check.due("whole rules of '" + cut + "'", x.read(cut), bare.length() - bare.replace(";", "").length());
             } else if (!inWord) {
                 fault(cut, 2, size);
             }
@@ -177,7 +177,7 @@ public final class FaultsTest {
         for (int sign = 0; sign < 256; sign++) {
             boolean token = sign >= 'a' && sign <= 'z' || sign >= '0' && sign <= '9' || sign == ':' || sign == ',' || sign == ';';
             if (sign == 32 || sign == 10) {
-                Check.due("a blank", Check.read(new WellCourt(), "" + (char) sign), 0);
+                Check.due("a blank", new Court().read("" + (char) sign), 0);
             } else {
                 fault("" + (char) sign, token ? 2 : 1, 0);
             }

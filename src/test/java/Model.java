@@ -2,7 +2,6 @@ import java.util.ArrayList;
 import java.util.HashMap;
 import java.util.List;
 import java.util.Map;
-import java.util.NoSuchElementException;
 import java.util.regex.Matcher;
 import java.util.regex.Pattern;
 
@@ -11,7 +10,7 @@ import java.util.regex.Pattern;
  * stand in the text, every day of a plan is a copy, the plan is a recursion. ModelTest sets the
  * class against it.
  */
-final class Model {
+final class Model implements Face {
     private static final int NONE = -1;
 
     private static final class Well {
@@ -87,7 +86,8 @@ final class Model {
         }
     }
 
-    int feed(int a, int b, int c, int d, int e) {
+    @Override
+    public int feed(int a, int b, int c, int d, int e) {
         if (tape.length() > 780) {
             return NONE;
         }
@@ -98,7 +98,8 @@ final class Model {
         return tape.length();
     }
 
-    boolean end(int n) {
+    @Override
+    public boolean end(int n) {
         if (n < 0 || n > tape.length()) {
             return false;
         }
@@ -106,7 +107,8 @@ final class Model {
         return true;
     }
 
-    boolean well(int w, int cap, int rate, int level) {
+    @Override
+    public boolean well(int w, int cap, int rate, int level) {
         if (w < 0 || w > 5 || wells.containsKey(w) || cap < 1 || cap > 1000 || rate < 0 || rate > 200 || level < 0 || level > cap) {
             return false;
         }
@@ -232,7 +234,8 @@ final class Model {
         }
     }
 
-    int rights() {
+    @Override
+    public int rights() {
         text = tape.toString();
         tape.setLength(0);
         fault = 0;
@@ -256,7 +259,8 @@ final class Model {
         return rules.size();
     }
 
-    int fault() {
+    @Override
+    public int fault() {
         return fault;
     }
 
@@ -283,7 +287,8 @@ final class Model {
         }
     }
 
-    boolean next() {
+    @Override
+    public boolean next() {
         if (day == 199) {
             return false;
         }
@@ -293,7 +298,8 @@ final class Model {
         return true;
     }
 
-    int water(int w, int what) {
+    @Override
+    public int water(int w, int what) {
         Well well = wells.get(w);
         if (well == null || what < 0 || what > 3) {
             return NONE;
@@ -301,7 +307,8 @@ final class Model {
         return new int[] {well.level, well.morning, well.cap, well.rate}[what];
     }
 
-    int owner(int w, int d) {
+    @Override
+    public int owner(int w, int d) {
         return w < 0 || w > 5 || d < 0 || d > 199 ? NONE : owners[d][w];
     }
 
@@ -339,14 +346,16 @@ final class Model {
         return NONE;
     }
 
-    int may(int w, int clan) {
+    @Override
+    public int may(int w, int clan) {
         if (!wells.containsKey(w) || clan < 0 || clan > 5) {
             return NONE;
         }
         return isRight(owners[day], wells, w, clan) ? 1 : many(w, clan) >= 0 ? 2 : 0;
     }
 
-    int lend(int w, int d, int clan) {
+    @Override
+    public int lend(int w, int d, int clan) {
         int holder = owner(w, d);
         if (clan < 0 || clan > 5 || d <= day || holder == NONE || holder == clan) {
             return NONE;
@@ -365,7 +374,8 @@ final class Model {
 
     // ---- draws
 
-    int draw(int w, int clan, int amount) {
+    @Override
+    public int draw(int w, int clan, int amount) {
         int may = may(w, clan);
         if (may == NONE || amount < 1 || amount > 1000 || draws.size() == 300) {
             return 1;
@@ -388,7 +398,8 @@ final class Model {
         return 0;
     }
 
-    int take(int w, int clan, int amount) {
+    @Override
+    public int take(int w, int clan, int amount) {
         int may = may(w, clan);
         if (may == NONE || amount < 1 || amount > 1000 || draws.size() == 300) {
             return 1;
@@ -404,7 +415,8 @@ final class Model {
         return 0;
     }
 
-    boolean report(int k) {
+    @Override
+    public boolean report(int k) {
         if (k < 0 || k >= draws.size() || draws.get(k).known[0] != NONE) {
             return false;
         }
@@ -412,15 +424,17 @@ final class Model {
         return true;
     }
 
-    int drawn(int k, int what) {
+    @Override
+    public long drawn(int k, int what) {
         if (k < 0 || k >= draws.size() || what < 0 || what > 5) {
-            throw new NoSuchElementException();
+            return THROWS;
         }
         Draw draw = draws.get(k);
         return new int[] {draw.day, draw.well, draw.clan, draw.amount, draw.right ? 1 : 0, draw.known[0]}[what];
     }
 
-    int judge(int clan, int from, int to, int d, int what) {
+    @Override
+    public int judge(int clan, int from, int to, int d, int what) {
         if (clan < 0 || clan > 5 || what < 0 || what > 3) {
             return NONE;
         }
@@ -441,7 +455,8 @@ final class Model {
 
     // ---- herds
 
-    boolean herd(int h, int clan, int draw, int last, int w) {
+    @Override
+    public boolean herd(int h, int clan, int draw, int last, int w) {
         if (h < 0 || h > 3 || clan < 0 || clan > 5 || draw < 1 || draw > 100 || last < 1 || last > 9 || !wells.containsKey(w)) {
             return false;
         }
@@ -455,11 +470,13 @@ final class Model {
         return true;
     }
 
-    boolean drop(int h) {
+    @Override
+    public boolean drop(int h) {
         return herds.remove(h) != null;
     }
 
-    boolean way(int u, int v, int days) {
+    @Override
+    public boolean way(int u, int v, int days) {
         if (u < 0 || u > 5 || v < 0 || v > 5 || u == v || days < 0 || days > 9) {
             return false;
         }
@@ -467,9 +484,10 @@ final class Model {
         return true;
     }
 
-    int plan(int n, int most) {
+    @Override
+    public long plan(int n, int most) {
         if (most < 1 || most > 50000) {
-            throw new IllegalArgumentException();
+            return THROWS;
         }
         looks = 0;
         if (herds.isEmpty() || n < 1 || n > 14 || day + n > 199) {
@@ -555,15 +573,18 @@ final class Model {
         return false;
     }
 
-    int step(int h, int d) {
+    @Override
+    public int step(int h, int d) {
         return h < 0 || h > 3 || d < 0 || d > 199 ? NONE : steps.getOrDefault(d * 4 + h, NONE);
     }
 
-    int far() {
+    @Override
+    public int far() {
         return far;
     }
 
-    int count(int what) {
+    @Override
+    public int count(int what) {
         if (what < 0 || what > 6) {
             return NONE;
         }

@@ -1,13 +1,14 @@
-import java.util.NoSuchElementException;
 import java.util.Random;
+import java.util.function.ToLongFunction;
 
-/** Runs of 512 calls at random (always the same ones), each answer set against the model's. */
+/** Runs of up to 512 calls at random (always the same ones), each answer set against the model's. */
 public final class ModelTest {
-    private static final int RUNS = 400;
-    private static final int CALLS = 512;
+    private static final int RUNS = 450;
+    /** The longest turn, a text of 800 bytes and what is asked behind it, must still fit in. */
+    private static final int CALLS = Court.MOST_CALLS - 50;
 
     private final Random random;
-    private final WellCourt court = new WellCourt();
+    private final Court court = new Court();
     private final Model model = new Model();
     private int calls = 0;
     private final String run;
@@ -36,7 +37,7 @@ public final class ModelTest {
             if (kind < 4) {
                 text();
             } else if (kind < (longDays ? 50 : 14)) {
-                due("next", court.next() ? 1 : 0, model.next() ? 1 : 0);
+                due("next", x -> x.next() ? 1 : 0);
             } else if (kind < 60) {
                 drawing();
             } else if (kind < 85) {
@@ -47,9 +48,9 @@ public final class ModelTest {
         }
     }
 
-    private void due(String call, long got, long want) {
+    private void due(String call, ToLongFunction<Face> asked) {
         calls++;
-        Check.due(run + "call " + calls + ": " + call, got, want);
+        Check.due(run + "call " + calls + ": " + call, asked.applyAsLong(court), asked.applyAsLong(model));
     }
 
     /** Mostly below many, sometimes one of the numbers around and far from it. */
@@ -62,7 +63,7 @@ public final class ModelTest {
         int cap = random.nextInt(3) == 0 ? number(1001) : 1 + random.nextInt(60);
         int rate = random.nextInt(3) == 0 ? number(201) : random.nextInt(12);
         int level = random.nextInt(3) == 0 ? 0 : number(Math.max(1, cap == Integer.MAX_VALUE ? cap : cap + 1));
-        due("well", court.well(w, cap, rate, level) ? 1 : 0, model.well(w, cap, rate, level) ? 1 : 0);
+        due("well", x -> x.well(w, cap, rate, level) ? 1 : 0);
     }
 
     private void text() {
@@ -72,17 +73,17 @@ public final class ModelTest {
             for (int i = 0; i < 20; i++) {
                 five[i / 4] = five[i / 4] << 8 | (at + i < bytes.length ? bytes[at + i] & 255 : 32);
             }
-            due("feed", court.feed(five[0], five[1], five[2], five[3], five[4]), model.feed(five[0], five[1], five[2], five[3], five[4]));
+            due("feed", x -> x.feed(five[0], five[1], five[2], five[3], five[4]));
         }
         if (random.nextInt(3) == 0) {
             int n = number(Math.max(1, model.count(5) + 1));
-            due("end", court.end(n) ? 1 : 0, model.end(n) ? 1 : 0);
+            due("end", x -> x.end(n) ? 1 : 0);
         }
         if (random.nextInt(8) > 0) {
-            due("rights", court.rights(), model.rights());
-            due("fault", court.fault(), model.fault());
-            due("rules", court.count(2), model.count(2));
-            due("tape", court.count(5), model.count(5));
+            due("rights", x -> x.rights());
+            due("fault", x -> x.fault());
+            due("rules", x -> x.count(2));
+            due("tape", x -> x.count(5));
         }
     }
 
@@ -140,23 +141,23 @@ public final class ModelTest {
         int clan = number(6);
         int amount = random.nextInt(5) == 0 ? number(1001) : 1 + random.nextInt(12);
         switch (random.nextInt(8)) {
-            case 0, 1, 2 -> due("draw", court.draw(w, clan, amount), model.draw(w, clan, amount));
-            case 3, 4 -> due("take", court.take(w, clan, amount), model.take(w, clan, amount));
+            case 0, 1, 2 -> due("draw", x -> x.draw(w, clan, amount));
+            case 3, 4 -> due("take", x -> x.take(w, clan, amount));
             case 5 -> {
                 int k = number(Math.max(1, model.count(4)));
-                due("report", court.report(k) ? 1 : 0, model.report(k) ? 1 : 0);
+                due("report", x -> x.report(k) ? 1 : 0);
             }
             case 6 -> {
                 int day = random.nextInt(4) == 0 ? number(200) : model.count(0) + random.nextInt(20);
-                due("lend", court.lend(w, day, clan), model.lend(w, day, clan));
+                due("lend", x -> x.lend(w, day, clan));
             }
             default -> {
                 int from = number(200);
                 int to = number(200);
                 int day = number(200);
                 int what = number(4);
-                due("judge", court.judge(clan, from, to, day, what), model.judge(clan, from, to, day, what));
-                due("judge", court.judge(clan, 0, 199, day, what), model.judge(clan, 0, 199, day, what));
+                due("judge", x -> x.judge(clan, from, to, day, what));
+                due("judge", x -> x.judge(clan, 0, 199, day, what));
             }
         }
     }
@@ -169,40 +170,25 @@ public final class ModelTest {
             int draw = random.nextInt(4) == 0 ? number(101) : 1 + random.nextInt(8);
             int last = random.nextInt(4) == 0 ? number(10) : 1 + random.nextInt(4);
             int w = number(6);
-            due("herd", court.herd(h, clan, draw, last, w) ? 1 : 0, model.herd(h, clan, draw, last, w) ? 1 : 0);
+            due("herd", x -> x.herd(h, clan, draw, last, w) ? 1 : 0);
         } else if (kind < 4) {
-            due("drop", court.drop(h) ? 1 : 0, model.drop(h) ? 1 : 0);
+            due("drop", x -> x.drop(h) ? 1 : 0);
         } else if (kind < 7) {
             int u = number(6);
             int v = number(6);
             int days = random.nextInt(3) == 0 ? number(10) : random.nextInt(4);
-            due("way", court.way(u, v, days) ? 1 : 0, model.way(u, v, days) ? 1 : 0);
+            due("way", x -> x.way(u, v, days) ? 1 : 0);
         } else {
             int n = number(15);
             int looks = random.nextInt(20) == 0 ? number(50001) : 1 + random.nextInt(300);
-            due("plan", plan(true, n, looks), plan(false, n, looks));
-            due("looks", court.count(6), model.count(6));
-            due("far", court.far(), model.far());
+            due("plan", x -> x.plan(n, looks));
+            due("looks", x -> x.count(6));
+            due("far", x -> x.far());
             for (int i = 0; i < 4; i++) {
+                int herd = i;
                 int day = model.count(0) + random.nextInt(10);
-                due("step", court.step(i, day), model.step(i, day));
+                due("step", x -> x.step(herd, day));
             }
-        }
-    }
-
-    private long plan(boolean ofCourt, int n, int looks) {
-        try {
-            return ofCourt ? court.plan(n, looks) : model.plan(n, looks);
-        } catch (IllegalArgumentException e) {
-            return Check.THROWS;
-        }
-    }
-
-    private long drawn(boolean ofCourt, int k, int what) {
-        try {
-            return ofCourt ? court.drawn(k, what) : model.drawn(k, what);
-        } catch (NoSuchElementException e) {
-            return Check.THROWS;
         }
     }
 
@@ -212,12 +198,12 @@ public final class ModelTest {
         int day = number(200);
         int k = number(Math.max(1, model.count(4)));
         switch (random.nextInt(7)) {
-            case 0 -> due("water", court.water(w, what), model.water(w, what));
-            case 1 -> due("owner", court.owner(w, day), model.owner(w, day));
-            case 2 -> due("may", court.may(w, what), model.may(w, what));
-            case 3 -> due("count", court.count(what), model.count(what));
-            case 4 -> due("drawn", drawn(true, k, what), drawn(false, k, what));
-            case 5 -> due("step", court.step(what, day), model.step(what, day));
+            case 0 -> due("water", x -> x.water(w, what));
+            case 1 -> due("owner", x -> x.owner(w, day));
+            case 2 -> due("may", x -> x.may(w, what));
+            case 3 -> due("count", x -> x.count(what));
+            case 4 -> due("drawn", x -> x.drawn(k, what));
+            case 5 -> due("step", x -> x.step(what, day));
             default -> well(w);
         }
     }

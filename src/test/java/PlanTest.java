@@ -28,25 +28,25 @@ public final class PlanTest {
         Check.due(call, got, want);
     }
 
-    private static void plan(WellCourt x, int n, int looks, long want) {
-        due("plan " + n + " with " + looks, Check.plan(x, n, looks), want);
+    private static void plan(Court x, int n, int looks, long want) {
+        due("plan " + n + " with " + looks, x.plan(n, looks), want);
     }
 
-    private static void steps(WellCourt x, int h, int from, String want) {
+    private static void steps(Court x, int h, int from, String want) {
         for (int i = 0; i < want.length(); i++) {
             due("step of " + h + " on " + (from + i), x.step(h, from + i), want.charAt(i) - '0');
         }
     }
 
-    private static WellCourt oneHerd(String text, int level, int draw, int last) {
-        WellCourt x = Check.courtWith(text);
+    private static Court oneHerd(String text, int level, int draw, int last) {
+        Court x = Court.with(text);
         x.well(0, 1000, 0, level);
         Check.due("herd", x.herd(0, 0, draw, last, 0), true);
         return x;
     }
 
     private static void limits() {
-        WellCourt x = oneHerd("turns 0: a 1;", 1000, 1, 1);
+        Court x = oneHerd("turns 0: a 1;", 1000, 1, 1);
         plan(x, 1, 1, 0);
         plan(x, 14, 14, 0);
         plan(x, 14, 50000, 0);
@@ -55,33 +55,33 @@ public final class PlanTest {
         plan(x, -1, 50000, NONE);
         plan(x, Integer.MAX_VALUE, 50000, NONE);
         plan(x, Integer.MIN_VALUE, 50000, NONE);
-        plan(x, 1, 0, Check.THROWS);
-        plan(x, 1, -1, Check.THROWS);
-        plan(x, 1, 50001, Check.THROWS);
-        plan(x, 1, Integer.MAX_VALUE, Check.THROWS);
-        plan(x, 1, Integer.MIN_VALUE, Check.THROWS);
-        Check.days(x, 185);
+        plan(x, 1, 0, Face.THROWS);
+        plan(x, 1, -1, Face.THROWS);
+        plan(x, 1, 50001, Face.THROWS);
+        plan(x, 1, Integer.MAX_VALUE, Face.THROWS);
+        plan(x, 1, Integer.MIN_VALUE, Face.THROWS);
+        x.days(185);
         x.herd(0, 0, 1, 1, 0);
         plan(x, 14, 50000, 0);
         due("the last day", x.step(0, 199), 0);
         due("no such day", x.step(0, 200), NONE);
-        Check.days(x, 1);
+        x.days(1);
         x.herd(0, 0, 1, 1, 0);
         plan(x, 14, 50000, NONE);
         plan(x, 13, 50000, 0);
-        Check.days(x, 13);
+        x.days(13);
         x.herd(0, 0, 1, 1, 0);
         plan(x, 1, 1, NONE);
     }
 
     private static void wrongInputs() {
-        WellCourt x = oneHerd("turns 0: a 1;", 5, 5, 1);
+        Court x = oneHerd("turns 0: a 1;", 5, 5, 1);
         // 0 1 1(bad), 1 0 1 1(bad), 1 1(bad)
         plan(x, 4, 100, 1);
         due("looks", x.count(6), 8);
         due("far", x.far(), 3);
-        plan(x, 1, 0, Check.THROWS);
-        plan(x, 15, 0, Check.THROWS);
+        plan(x, 1, 0, Face.THROWS);
+        plan(x, 15, 0, Face.THROWS);
         due("a throw leaves the looks", x.count(6), 8);
         due("a throw leaves far", x.far(), 3);
         plan(x, 15, 1, NONE);
@@ -94,7 +94,7 @@ public final class PlanTest {
     }
 
     private static void drinksFirst() {
-        WellCourt x = oneHerd("turns 0: a 1, b 1;", 1000, 10, 2);
+        Court x = oneHerd("turns 0: a 1, b 1;", 1000, 10, 2);
         plan(x, 5, 100, 0);
         steps(x, 0, 1, "10101");
         due("looks", x.count(6), 5);
@@ -110,7 +110,7 @@ public final class PlanTest {
 
     /** Water for one drink, which lasts to the end of the second day behind it. */
     private static void looksOfOneHerd() {
-        WellCourt x = oneHerd("turns 0: a 1;", 5, 5, 2);
+        Court x = oneHerd("turns 0: a 1;", 5, 5, 2);
         plan(x, 3, 100, 0);
         steps(x, 0, 1, "011");
         due("looks", x.count(6), 3);
@@ -131,7 +131,7 @@ public final class PlanTest {
     }
 
     private static void cutAtEachLook() {
-        WellCourt x = oneHerd("turns 0: a 1;", 5, 5, 2);
+        Court x = oneHerd("turns 0: a 1;", 5, 5, 2);
         for (int looks = 1; looks < 8; looks++) {
             plan(x, 4, looks, 2);
             due("looks", x.count(6), looks);
@@ -147,7 +147,7 @@ public final class PlanTest {
     }
 
     private static void underWay() {
-        WellCourt x = Check.courtWith("turns 5: a 1;");
+        Court x = Court.with("turns 5: a 1;");
         x.well(0, 10, 0, 0);
         x.well(5, 1000, 0, 1000);
         x.herd(2, 0, 100, 3, 0);
@@ -169,7 +169,7 @@ public final class PlanTest {
     }
 
     private static void acrossAWellThatIsNotThere() {
-        WellCourt x = Check.courtWith("turns 2: a 1; turns 1: a 1;");
+        Court x = Court.with("turns 2: a 1; turns 1: a 1;");
         x.well(0, 10, 0, 0);
         x.well(2, 100, 0, 100);
         x.herd(0, 0, 1, 2, 0);
@@ -180,7 +180,7 @@ public final class PlanTest {
     }
 
     private static void noGuests() {
-        WellCourt x = Check.courtWith("turns 0: b 1; guest a at 0 of b 1000;");
+        Court x = Court.with("turns 0: b 1; guest a at 0 of b 1000;");
         x.well(0, 1000, 0, 1000);
         x.herd(0, 0, 1, 1, 0);
         due("a guest", x.may(0, 0), 2);
@@ -190,7 +190,7 @@ public final class PlanTest {
     }
 
     private static void kinAndDry() {
-        WellCourt x = Check.courtWith("turns 0: b 1; turns 1: c 1; wed a b; dry 1 to 0;");
+        Court x = Court.with("turns 0: b 1; turns 1: c 1; wed a b; dry 1 to 0;");
         x.well(0, 1000, 0, 1000);
         x.well(1, 1000, 0, 2);
         x.herd(0, 0, 1, 1, 0);
@@ -203,13 +203,13 @@ public final class PlanTest {
         plan(x, 4, 50000, 0);
         steps(x, 0, 1, "0000");
         steps(x, 1, 1, "0020");
-        Check.read(x, "turns 0: b 1; turns 1: c 1; wed a b; dry 0 to 1;");
+        x.read("turns 0: b 1; turns 1: c 1; wed a b; dry 0 to 1;");
         plan(x, 6, 50000, 1);
         due("far", x.far(), 5);
     }
 
     private static void droughtOfThePlan() {
-        WellCourt x = Check.courtWith("turns 0: a 1; drought 0 below 50 b;");
+        Court x = Court.with("turns 0: a 1; drought 0 below 50 b;");
         x.well(0, 1000, 5, 50);
         x.herd(0, 0, 20, 1, 0);
         // a drink on the first morning, 55, makes the next two 40 and 45: b owns them
@@ -224,7 +224,7 @@ public final class PlanTest {
     }
 
     private static void herdsShareWater() {
-        WellCourt x = Check.courtWith("turns 0: a 1;");
+        Court x = Court.with("turns 0: a 1;");
         x.well(0, 100, 10, 0);
         x.herd(1, 0, 10, 2, 0);
         x.herd(3, 0, 10, 2, 0);
@@ -244,7 +244,7 @@ public final class PlanTest {
 
     /** What the last herd drank on a bad day is there again for what it does next. */
     private static void waterComesBack() {
-        WellCourt x = Check.courtWith("turns 0: a 1;");
+        Court x = Court.with("turns 0: a 1;");
         x.well(0, 100, 0, 30);
         x.well(1, 100, 0, 0);
         x.way(1, 0, 1);
@@ -260,7 +260,7 @@ public final class PlanTest {
     }
 
     private static void lentDays() {
-        WellCourt x = oneHerd("turns 0: a 1, b 3;", 1000, 1, 3);
+        Court x = oneHerd("turns 0: a 1, b 3;", 1000, 1, 3);
         plan(x, 8, 50000, 0);
         steps(x, 0, 1, "11101110");
         due("lend", x.lend(0, 4, 1), 5);
@@ -272,7 +272,7 @@ public final class PlanTest {
     }
 
     private static void realLevelIsWhereItBegins() {
-        WellCourt x = Check.courtWith("turns 0: a 1;");
+        Court x = Court.with("turns 0: a 1;");
         x.well(0, 1000, 5, 100);
         x.herd(0, 0, 50, 1, 0);
         plan(x, 2, 100, 0);
@@ -289,7 +289,7 @@ public final class PlanTest {
     }
 
     private static void stepsStay() {
-        WellCourt x = oneHerd("turns 0: a 1;", 100, 10, 2);
+        Court x = oneHerd("turns 0: a 1;", 100, 10, 2);
         plan(x, 3, 100, 0);
         steps(x, 0, 1, "000");
         x.herd(1, 1, 1, 1, 0);
@@ -297,12 +297,12 @@ public final class PlanTest {
         steps(x, 0, 1, "000");
         plan(x, 3, 1, 2);
         plan(x, 15, 1, NONE);
-        plan(x, 3, 0, Check.THROWS);
+        plan(x, 3, 0, Face.THROWS);
         steps(x, 0, 1, "000");
         due("not planned then", x.step(1, 1), NONE);
         due("drop", x.drop(0) ? 1 : 0, 1);
         steps(x, 0, 1, "000");
-        Check.days(x, 2);
+        x.days(2);
         steps(x, 0, 1, "000");
         x.herd(1, 1, 1, 1, 0);
         plan(x, 1, 100, 0);
@@ -313,7 +313,7 @@ public final class PlanTest {
     }
 
     private static void farInSomeCase() {
-        WellCourt x = Check.courtWith("turns 0: b 1; turns 1: a 1; turns 2: a 1;");
+        Court x = Court.with("turns 0: b 1; turns 1: a 1; turns 2: a 1;");
         x.well(0, 10, 0, 0);
         x.well(1, 10, 0, 10);
         x.well(2, 10, 0, 10);
@@ -324,14 +324,14 @@ public final class PlanTest {
         plan(x, 9, 50000, 1);
         due("far", x.far(), 8);
         x.herd(0, 0, 10, 1, 0);
-        Check.days(x, 3);
+        x.days(3);
         plan(x, 9, 50000, 1);
         due("the first day was never good", x.far(), 0);
         due("its looks", x.count(6), 3);
     }
 
     private static void nothingIsChanged() {
-        WellCourt x = Check.courtWith("turns 0: a 1; drought 0 below 20 c;");
+        Court x = Court.with("turns 0: a 1; drought 0 below 20 c;");
         x.well(0, 100, 0, 40);
         x.herd(0, 0, 10, 1, 0);
         plan(x, 3, 100, 0);
@@ -346,7 +346,7 @@ public final class PlanTest {
     }
 
     private static void theLongest() {
-        WellCourt x = Check.courtWith("turns 0: a 1;");
+        Court x = Court.with("turns 0: a 1;");
         for (int w = 0; w < 6; w++) {
             x.well(w, 1000, 0, w == 0 ? 1000 : 0);
             for (int v = 0; v < 6; v++) {

@@ -47,13 +47,14 @@ public final class PromisesTest {
 
     private static void promise1() {
         due("NONE", WellCourt.NONE, -1);
-        WellCourt x = new WellCourt();
+        Court x = new Court();
         for (int what = 0; what <= 6; what++) {
             due("1 count " + what, x.count(what), 0);
         }
         for (int w = 0; w < 6; w++) {
+            Court other = new Court();
             for (int day = 0; day < 200; day++) {
-                due("1 owner", x.owner(w, day), NONE);
+                due("1 owner", other.owner(w, day), NONE);
             }
             due("1 water", x.water(w, 0), NONE);
             due("1 may", x.may(w, 0), NONE);
@@ -61,13 +62,13 @@ public final class PromisesTest {
         due("1 fault", x.fault(), 0);
         due("1 far", x.far(), 0);
         due("1 step", x.step(0, 1), NONE);
-        due("1 drawn", Check.drawn(x, 0, 0), Check.THROWS);
-        due("1 plan", Check.plan(x, 1, 1), NONE);
+        due("1 drawn", x.drawn(0, 0), Face.THROWS);
+        due("1 plan", x.plan(1, 1), NONE);
         due("1 rights", x.rights(), 0);
     }
 
     private static void promise2() {
-        WellCourt x = new WellCourt();
+        Court x = new Court();
         due("2 feed", x.feed(0x77656420, 0x6120623b, 0x64727920, 0x3120746f, 0x20323b20), 20);
         due("2 bytes", x.count(5), 20);
         due("2 the highest byte comes first", x.rights(), 2);
@@ -87,7 +88,7 @@ public final class PromisesTest {
     }
 
     private static void promise3() {
-        WellCourt x = new WellCourt();
+        Court x = new Court();
         due("3 end 0", x.end(0), true);
         due("3 end 1", x.end(1), false);
         x.feed(0x77656420, 0x6120623b, 0xffffffff, 0, 0);
@@ -104,7 +105,7 @@ public final class PromisesTest {
     }
 
     private static void promise4() {
-        WellCourt x = new WellCourt();
+        Court x = new Court();
         due("4 w -1", x.well(-1, 10, 1, 1), false);
         due("4 w 6", x.well(6, 10, 1, 1), false);
         due("4 w high", x.well(HIGH, 10, 1, 1), false);
@@ -124,37 +125,37 @@ public final class PromisesTest {
         due("4 cap", x.water(5, 2), 1000);
         due("4 rate", x.water(5, 3), 200);
         due("4 morning 0", x.water(0, 1), 0);
-        Check.days(x, 3);
+        x.days(3);
         due("4 a later well", x.well(2, 50, 7, 9), true);
         due("4 its morning", x.water(2, 1), 9);
         due("4 its level", x.water(2, 0), 9);
     }
 
     private static void promise5() {
-        WellCourt x = new WellCourt();
-        due("5 rules", Check.read(x, "turns 0: a 2, b 1; wed a b;\nwed c d;"), 3);
+        Court x = new Court();
+        due("5 rules", x.read("turns 0: a 2, b 1; wed a b;\nwed c d;"), 3);
         due("5 tape", x.count(5), 0);
-        due("5 fault", Check.read(x, "turns 1: c 2; wed a a;"), -1 - 20);
+        due("5 fault", x.read("turns 1: c 2; wed a a;"), -1 - 20);
         due("5 tape behind a fault", x.count(5), 0);
         due("5 rules stay", x.count(2), 3);
         due("5 owner stays", x.owner(0, 2), 1);
         due("5 no new owner", x.owner(1, 0), NONE);
         x.well(0, 10, 0, 10);
         due("5 kin stays", x.may(0, 1), 1);
-        due("5 a second text", Check.read(x, "turns 1: c 2;"), 1);
+        due("5 a second text", x.read("turns 1: c 2;"), 1);
         due("5 old turns are gone", x.owner(0, 0), NONE);
         due("5 old kin is gone", x.may(0, 1), 0);
         due("5 of a well that is not there", x.owner(1, 199), 2);
-        due("5 the empty text", Check.read(x, ""), 0);
+        due("5 the empty text", x.read(""), 0);
         due("5 none without", x.owner(1, 199), NONE);
-        due("5 blanks", Check.read(x, " \n \n"), 0);
-        due("5 tight", Check.read(x, "turns 0:a 1,b 2;wed a b;guest c at 0 of a 0;drought 0 below 0 a;dry 0 to 1;"), 5);
-        due("5 numbers of four digits", Check.read(x, "turns 0005: a 0009; drought 0 below 1000 f;"), 2);
+        due("5 blanks", x.read(" \n \n"), 0);
+        due("5 tight", x.read("turns 0:a 1,b 2;wed a b;guest c at 0 of a 0;drought 0 below 0 a;dry 0 to 1;"), 5);
+        due("5 numbers of four digits", x.read("turns 0005: a 0009; drought 0 below 1000 f;"), 2);
         due("5 owner", x.owner(5, 0), 0);
     }
 
     private static void promise5Owners() {
-        WellCourt x = Check.courtWith("turns 0: a 2, b 3, c 1; turns 3: d 9, e 9, f 9, a 9, b 9, c 9, d 9, e 9;");
+        Court x = Court.with("turns 0: a 2, b 3, c 1; turns 3: d 9, e 9, f 9, a 9, b 9, c 9, d 9, e 9;");
         for (int day = 0; day < 200; day++) {
             int at = day % 6;
             due("5 turns", x.owner(0, day), at < 2 ? 0 : at < 5 ? 1 : 2);
@@ -162,8 +163,8 @@ public final class PromisesTest {
         }
         due("5 lend", x.lend(0, 6, 1), 8);
         due("5 lend", x.lend(0, 12, 2), 17);
-        Check.days(x, 8);
-        due("5 again", Check.read(x, "turns 0: c 1, d 1;"), 1);
+        x.days(8);
+        due("5 again", x.read("turns 0: c 1, d 1;"), 1);
         due("5 ahead of DAY they stay", x.owner(0, 5), 2);
         due("5 what was lent ahead of DAY stays", x.owner(0, 6), 1);
         due("5 DAY is told anew", x.owner(0, 8), 2);
@@ -176,17 +177,17 @@ public final class PromisesTest {
 
     /** Read thrice: what any earlier text said is gone, not only what the latest one said. */
     private static void promise5NothingIsLeft() {
-        WellCourt x = new WellCourt();
+        Court x = new Court();
         x.well(0, 10, 0, 0);
         x.well(1, 10, 0, 10);
         due("5 without rights none is right", x.may(0, 0), 0);
-        due("5 rich", Check.read(x, "turns 0: a 1; turns 1: b 1; drought 0 below 1 c; wed b d; dry 0 to 1; guest e at 1 of b 1;"), 6);
+        due("5 rich", x.read("turns 0: a 1; turns 1: b 1; drought 0 below 1 c; wed b d; dry 0 to 1; guest e at 1 of b 1;"), 6);
         due("5 drought", x.owner(0, 0), 2);
         due("5 wed", x.may(1, 3), 1);
         due("5 dry", x.may(1, 2), 1);
         due("5 guest", x.may(1, 4), 2);
         for (int i = 0; i < 3; i++) {
-            due("5 poor", Check.read(x, "turns 0: a 1; turns 1: b 1;"), 2);
+            due("5 poor", x.read("turns 0: a 1; turns 1: b 1;"), 2);
             due("5 no drought", x.owner(0, 0), 0);
             due("5 not wed", x.may(1, 3), 0);
             due("5 not dry", x.may(1, 0), 0);
@@ -196,53 +197,53 @@ public final class PromisesTest {
 
     /** Twenty rules of one kind, of which the last alone says something. */
     private static void promise5TwentyOfAKind() {
-        WellCourt x = new WellCourt();
+        Court x = new Court();
         x.well(0, 10, 0, 5);
         x.well(1, 10, 0, 5);
-        due("5 droughts", Check.read(x, "drought 0 below 0 a;".repeat(19) + "drought 0 below 6 f;"), 20);
+        due("5 droughts", x.read("drought 0 below 0 a;".repeat(19) + "drought 0 below 6 f;"), 20);
         due("5 the last drought", x.owner(0, 0), 5);
-        due("5 guests", Check.read(x, "turns 1: b 1;" + "guest a at 0 of b 1;".repeat(18) + "guest e at 1 of b 3;"), 20);
+        due("5 guests", x.read("turns 1: b 1;" + "guest a at 0 of b 1;".repeat(18) + "guest e at 1 of b 3;"), 20);
         due("5 the last guest", x.may(1, 4), 2);
         due("5 its many", x.draw(1, 4, 4), 3);
         due("5 its many", x.draw(1, 4, 3), 0);
     }
 
     private static void promise6() {
-        WellCourt x = new WellCourt();
+        Court x = new Court();
         due("6 ahead of any", x.fault(), 0);
-        Check.read(x, "#");
+        x.read("#");
         due("6 kind 1", x.fault(), 1);
-        Check.read(x, "wed");
+        x.read("wed");
         due("6 kind 2", x.fault(), 2);
-        Check.read(x, "wed a a;");
+        x.read("wed a a;");
         due("6 kind 3", x.fault(), 3);
-        Check.read(x, "wed a b;".repeat(21));
+        x.read("wed a b;".repeat(21));
         due("6 kind 4", x.fault(), 4);
         x.feed(0, 0, 0, 0, 0);
         x.next();
         due("6 stays", x.fault(), 4);
-        Check.read(x, "wed a b;");
+        x.read("wed a b;");
         due("6 without one", x.fault(), 0);
     }
 
     private static void promise7() {
-        WellCourt x = new WellCourt();
+        Court x = new Court();
         x.well(0, 25, 10, 3);
         x.well(1, 30, 0, 3);
         x.well(2, 200, 200, 0);
         due("7 DAY 0 begins without growth", x.water(0, 0), 3);
-        Check.days(x, 1);
+        x.days(1);
         due("7 level", x.water(0, 0), 13);
         due("7 morning", x.water(0, 1), 13);
         due("7 no rate", x.water(1, 0), 3);
         due("7 up to cap", x.water(2, 1), 200);
         due("7 take", x.take(0, 0, 5), 0);
         due("7 the morning stays", x.water(0, 1), 13);
-        Check.days(x, 1);
+        x.days(1);
         due("7 from the level on", x.water(0, 1), 18);
-        Check.days(x, 1);
+        x.days(1);
         due("7 cap", x.water(0, 0), 25);
-        Check.days(x, 196);
+        x.days(196);
         due("7 DAY", x.count(0), 199);
         due("7 take", x.take(0, 0, 5), 0);
         due("7 the last DAY", x.next(), false);
@@ -251,10 +252,10 @@ public final class PromisesTest {
     }
 
     private static void promise7Drought() {
-        WellCourt x = new WellCourt();
+        Court x = new Court();
         x.well(0, 100, 10, 0);
         x.well(2, 100, 10, 0);
-        Check.read(x, "turns 0: a 1, b 1; drought 1 below 1000 f; drought 0 below 20 c; drought 0 below 40 d; drought 2 below 11 e;");
+        x.read("turns 0: a 1, b 1; drought 1 below 1000 f; drought 0 below 20 c; drought 0 below 40 d; drought 2 below 11 e;");
         due("7 asked when rights are read", x.owner(0, 0), 2);
         due("7 days behind are not asked yet", x.owner(0, 1), 1);
         due("7 a well that is not there has no morning", x.owner(1, 0), NONE);
@@ -263,27 +264,27 @@ public final class PromisesTest {
         due("7 the other is not", x.may(0, 0), 0);
         x.well(1, 10, 0, 0);
         due("7 not asked at well()", x.owner(1, 0), NONE);
-        Check.days(x, 1);
+        x.days(1);
         due("7 first rule holds", x.owner(0, 1), 2);
         due("7 now it is asked", x.owner(1, 1), 5);
         due("7 below 11", x.owner(2, 1), 4);
-        Check.days(x, 1);
+        x.days(1);
         due("7 below is not at", x.owner(0, 2), 3);
         due("7 on that day alone", x.owner(2, 2), NONE);
-        Check.days(x, 2);
+        x.days(2);
         due("7 none holds", x.owner(0, 4), 0);
         due("7 past days stay", x.owner(0, 1), 2);
         due("7 take", x.take(0, 5, 40), 0);
         due("7 by the morning, not by the level", x.may(0, 0), 1);
-        Check.read(x, "turns 0: a 1; drought 0 below 40 f;");
+        x.read("turns 0: a 1; drought 0 below 40 f;");
         due("7 morning at reading", x.owner(0, 4), 0);
-        Check.read(x, "turns 0: a 1; drought 0 below 41 f;");
+        x.read("turns 0: a 1; drought 0 below 41 f;");
         due("7 morning at reading", x.owner(0, 4), 5);
         due("7 past days stay", x.owner(0, 2), 3);
     }
 
     private static void promise8() {
-        WellCourt x = new WellCourt();
+        Court x = new Court();
         x.well(3, 70, 8, 9);
         due("8 level", x.water(3, 0), 9);
         due("8 morning", x.water(3, 1), 9);
@@ -299,7 +300,7 @@ public final class PromisesTest {
     }
 
     private static void promise9() {
-        WellCourt x = Check.courtWith("turns 4: f 1;");
+        Court x = Court.with("turns 4: f 1;");
         due("9 first", x.owner(4, 0), 5);
         due("9 last", x.owner(4, 199), 5);
         due("9 day 200", x.owner(4, 200), NONE);
@@ -312,7 +313,7 @@ public final class PromisesTest {
     }
 
     private static void promise10() {
-        WellCourt x = Check.courtWith("turns 0: a 1, b 1; turns 1: c 1;");
+        Court x = Court.with("turns 0: a 1, b 1; turns 1: c 1;");
         x.well(0, 10, 1, 5);
         due("10 owner", x.may(0, 0), 1);
         due("10 not its day", x.may(0, 1), 0);
@@ -322,7 +323,7 @@ public final class PromisesTest {
         due("10 clan 6", x.may(0, 6), NONE);
         due("10 clan -1", x.may(0, -1), NONE);
         due("10 clan low", x.may(0, LOW), NONE);
-        Check.days(x, 1);
+        x.days(1);
         due("10 next day", x.may(0, 0), 0);
         due("10 next day", x.may(0, 1), 1);
         x.well(2, 10, 1, 5);
@@ -330,7 +331,7 @@ public final class PromisesTest {
     }
 
     private static void promise10Kin() {
-        WellCourt x = Check.courtWith("turns 0: a 1, b 1; wed b c; wed c d; wed a e; guest e at 0 of a 5; guest c at 1 of a 5; wed e f;");
+        Court x = Court.with("turns 0: a 1, b 1; wed b c; wed c d; wed a e; guest e at 0 of a 5; guest c at 1 of a 5; wed e f;");
         x.well(0, 10, 1, 5);
         x.well(1, 10, 1, 5);
         due("10 wed", x.may(0, 4), 1);
@@ -338,13 +339,13 @@ public final class PromisesTest {
         due("10 kin of another", x.may(0, 2), 0);
         due("10 no owner has no kin", x.may(1, 2), 0);
         due("10 nor guests", x.may(1, 2), 0);
-        Check.days(x, 1);
+        x.days(1);
         due("10 wed, the other way", x.may(0, 2), 1);
         due("10 kin of kin", x.may(0, 3), 0);
     }
 
     private static void promise10Dry() {
-        WellCourt x = Check.courtWith("turns 0: a 1; turns 1: b 1; turns 2: c 1; turns 3: d 1; dry 1 to 0; dry 2 to 0; dry 3 to 0; wed b e;"
+        Court x = Court.with("turns 0: a 1; turns 1: b 1; turns 2: c 1; turns 3: d 1; dry 1 to 0; dry 2 to 0; dry 3 to 0; wed b e;"
                 + "drought 2 below 1 f;");
         x.well(0, 100, 1, 5);
         x.well(1, 100, 0, 2);
@@ -357,7 +358,7 @@ public final class PromisesTest {
         due("10 the morning, not the level", x.may(0, 1), 0);
         x.well(3, 10, 0, 0);
         due("10 now it is there", x.may(0, 3), 1);
-        Check.days(x, 1);
+        x.days(1);
         due("10 dry", x.may(0, 1), 1);
         due("10 its kin is not", x.may(0, 4), 0);
         due("10 dry no more", x.may(0, 2), 0);
@@ -365,29 +366,29 @@ public final class PromisesTest {
         x.take(2, 0, 5);
         x.take(2, 0, 1);
         due("10 level 0", x.water(2, 0), 0);
-        WellCourt y = new WellCourt();
+        Court y = new Court();
         y.well(0, 100, 1, 5);
         y.well(2, 100, 0, 0);
-        Check.read(y, "turns 0: a 1; turns 2: c 1; dry 2 to 0; drought 2 below 1 f;");
+        y.read("turns 0: a 1; turns 2: c 1; dry 2 to 0; drought 2 below 1 f;");
         due("10 the drought's clan owns the dry well", y.may(0, 5), 1);
         due("10 the other does not", y.may(0, 2), 0);
     }
 
     private static void promise10Guest() {
-        WellCourt x = Check.courtWith("turns 0: a 1, b 1; guest c at 0 of a 0; guest d at 1 of a 9; guest e at 0 of b 9; wed a f; guest f at 0 of a 1;");
+        Court x = Court.with("turns 0: a 1, b 1; guest c at 0 of a 0; guest d at 1 of a 9; guest e at 0 of b 9; wed a f; guest f at 0 of a 1;");
         x.well(0, 10, 1, 5);
         due("10 guest of 0", x.may(0, 2), 2);
         due("10 of another well", x.may(0, 3), 0);
         due("10 of another clan", x.may(0, 4), 0);
         due("10 right goes first", x.may(0, 5), 1);
         due("10 not the other way", x.may(0, 0), 1);
-        Check.days(x, 1);
+        x.days(1);
         due("10 another day", x.may(0, 2), 0);
         due("10 another day", x.may(0, 4), 2);
     }
 
     private static void promise11() {
-        WellCourt x = Check.courtWith("turns 0: a 2, b 1, c 1;");
+        Court x = Court.with("turns 0: a 2, b 1, c 1;");
         due("11 lend", x.lend(0, 2, 0), 4);
         due("11 lent", x.owner(0, 2), 0);
         due("11 given back", x.owner(0, 4), 1);
@@ -410,17 +411,17 @@ public final class PromisesTest {
         due("11 none behind it", x.owner(0, 199), 1);
         due("11 the next but one", x.lend(0, 197, 2), 198);
         due("11 of lent days, too", x.owner(0, 198), 0);
-        Check.days(x, 5);
+        x.days(5);
         due("11 DAY", x.lend(0, 5, 1), NONE);
         due("11 behind DAY", x.lend(0, 6, 0), 8);
         x.well(0, 100, 0, 100);
-        Check.days(x, 1);
+        x.days(1);
         due("11 it is right then", x.may(0, 0), 1);
         due("11 the lender is not", x.may(0, 1), 0);
     }
 
     private static void promise12() {
-        WellCourt x = Check.courtWith("turns 0: a 1, b 1; turns 2: a 1;");
+        Court x = Court.with("turns 0: a 1, b 1; turns 2: a 1;");
         x.well(0, 1000, 1, 1000);
         due("12 w 6", x.draw(6, 0, 1), 1);
         due("12 w -1", x.draw(-1, 0, 1), 1);
@@ -441,16 +442,16 @@ public final class PromisesTest {
         due("12 morning", x.water(0, 1), 1000);
         due("12 empty", x.draw(0, 0, 1), 4);
         due("12 draws", x.count(4), 2);
-        due("12 right", Check.drawn(x, 0, 4), 1);
-        due("12 known on its DAY", Check.drawn(x, 0, 5), 0);
-        Check.days(x, 1);
+        due("12 right", x.drawn(0, 4), 1);
+        due("12 known on its DAY", x.drawn(0, 5), 0);
+        x.days(1);
         due("12 the next day's", x.draw(0, 1, 1), 0);
-        due("12 its day", Check.drawn(x, 2, 0), 1);
-        due("12 known", Check.drawn(x, 2, 5), 1);
+        due("12 its day", x.drawn(2, 0), 1);
+        due("12 known", x.drawn(2, 5), 1);
     }
 
     private static void promise12Guest() {
-        WellCourt x = Check.courtWith("turns 0: a 1; turns 1: a 1; guest b at 0 of a 10; guest b at 0 of a 50; guest b at 1 of a 7; guest c at 0 of a 0;");
+        Court x = Court.with("turns 0: a 1; turns 1: a 1; guest b at 0 of a 10; guest b at 0 of a 50; guest b at 1 of a 7; guest c at 0 of a 0;");
         x.well(0, 100, 0, 12);
         x.well(1, 100, 0, 100);
         due("12 guest of none", x.draw(0, 2, 1), 3);
@@ -460,22 +461,22 @@ public final class PromisesTest {
         due("12 takes do not count", x.take(0, 1, 1), 0);
         due("12 in all", x.draw(0, 1, 5), 3);
         due("12 beyond many goes first", x.draw(0, 1, 1000), 3);
-        due("12 a guest's is right", Check.drawn(x, 0, 4), 1);
-        due("12 known", Check.drawn(x, 0, 5), 0);
+        due("12 a guest's is right", x.drawn(0, 4), 1);
+        due("12 known", x.drawn(0, 5), 0);
         due("12 owner", x.draw(0, 0, 2), 0);
         due("12 then the level", x.draw(0, 1, 4), 4);
         due("12 up to many", x.draw(0, 1, 3), 0);
-        Check.days(x, 1);
+        x.days(1);
         due("12 anew on the next day", x.draw(0, 1, 10), 4);
-        Check.read(x, "turns 1: b 1;");
+        x.read("turns 1: b 1;");
         due("12 as owner", x.draw(1, 1, 8), 0);
-        Check.read(x, "turns 1: a 1; guest b at 1 of a 10;");
+        x.read("turns 1: a 1; guest b at 1 of a 10;");
         due("12 drawn as owner counts", x.draw(1, 1, 3), 3);
         due("12 drawn as owner counts", x.draw(1, 1, 2), 0);
     }
 
     private static void promise12Most() {
-        WellCourt x = Check.courtWith("turns 0: a 1;");
+        Court x = Court.with("turns 0: a 1;");
         x.well(0, 1000, 0, 1000);
         for (int k = 0; k < 150; k++) {
             due("12 draw", x.draw(0, 0, 1), 0);
@@ -486,8 +487,8 @@ public final class PromisesTest {
         due("13 one more", x.take(0, 1, 1), 1);
         due("13 one more goes first", x.take(0, 0, 1), 1);
         due("12 level", x.water(0, 0), 700);
-        due("15 the last one", Check.drawn(x, 299, 2), 1);
-        due("15 no more", Check.drawn(x, 300, 2), Check.THROWS);
+        due("15 the last one", x.drawn(299, 2), 1);
+        due("15 no more", x.drawn(300, 2), Face.THROWS);
         due("14 the last one", x.report(299), true);
         due("16 all", x.judge(1, 0, 0, 0, 0), 150);
         due("16 known", x.judge(1, 0, 0, 0, 2), 1);
@@ -496,7 +497,7 @@ public final class PromisesTest {
     }
 
     private static void promise13() {
-        WellCourt x = Check.courtWith("turns 0: a 1; guest c at 0 of a 5; wed a d;");
+        Court x = Court.with("turns 0: a 1; guest c at 0 of a 5; wed a d;");
         x.well(0, 1000, 0, 20);
         due("13 w 6", x.take(6, 1, 1), 1);
         due("13 w -1", x.take(-1, 1, 1), 1);
@@ -514,14 +515,14 @@ public final class PromisesTest {
         due("13 take", x.take(0, 1, 14), 0);
         due("13 a guest, too", x.take(0, 2, 6), 0);
         due("13 level", x.water(0, 0), 0);
-        due("13 not right", Check.drawn(x, 0, 4), 0);
-        due("13 not known", Check.drawn(x, 0, 5), NONE);
-        due("13 a guest's is not right", Check.drawn(x, 1, 4), 0);
-        due("13 nor known", Check.drawn(x, 1, 5), NONE);
+        due("13 not right", x.drawn(0, 4), 0);
+        due("13 not known", x.drawn(0, 5), NONE);
+        due("13 a guest's is not right", x.drawn(1, 4), 0);
+        due("13 nor known", x.drawn(1, 5), NONE);
     }
 
     private static void promise14() {
-        WellCourt x = Check.courtWith("turns 0: a 1;");
+        Court x = Court.with("turns 0: a 1;");
         x.well(0, 1000, 0, 20);
         due("14 none yet", x.report(0), false);
         x.draw(0, 0, 1);
@@ -531,48 +532,48 @@ public final class PromisesTest {
         due("14 none such", x.report(3), false);
         due("14 -1", x.report(-1), false);
         due("14 high", x.report(HIGH), false);
-        Check.days(x, 4);
+        x.days(4);
         due("14 report", x.report(1), true);
-        due("14 from DAY on", Check.drawn(x, 1, 5), 4);
-        due("14 it stays not right", Check.drawn(x, 1, 4), 0);
+        due("14 from DAY on", x.drawn(1, 5), 4);
+        due("14 it stays not right", x.drawn(1, 4), 0);
         due("14 again", x.report(1), false);
-        Check.days(x, 1);
+        x.days(1);
         due("14 again", x.report(1), false);
-        due("14 it stays", Check.drawn(x, 1, 5), 4);
-        due("14 the other", Check.drawn(x, 2, 5), NONE);
+        due("14 it stays", x.drawn(1, 5), 4);
+        due("14 the other", x.drawn(2, 5), NONE);
     }
 
     private static void promise15() {
-        WellCourt x = Check.courtWith("turns 3: b 1;");
+        Court x = Court.with("turns 3: b 1;");
         x.well(3, 1000, 0, 20);
-        Check.days(x, 2);
+        x.days(2);
         x.draw(3, 1, 7);
         x.take(3, 4, 5);
         long[][] want = {{2, 3, 1, 7, 1, 2}, {2, 3, 4, 5, 0, NONE}};
         for (int k = 0; k < 2; k++) {
             for (int what = 0; what < 6; what++) {
-                due("15 drawn " + k + " " + what, Check.drawn(x, k, what), want[k][what]);
+                due("15 drawn " + k + " " + what, x.drawn(k, what), want[k][what]);
             }
         }
-        due("15 k 2", Check.drawn(x, 2, 0), Check.THROWS);
-        due("15 k -1", Check.drawn(x, -1, 0), Check.THROWS);
-        due("15 k low", Check.drawn(x, LOW, 0), Check.THROWS);
-        due("15 k high", Check.drawn(x, HIGH, 0), Check.THROWS);
-        due("15 what 6", Check.drawn(x, 0, 6), Check.THROWS);
-        due("15 what -1", Check.drawn(x, 0, -1), Check.THROWS);
-        due("15 what high", Check.drawn(x, 0, HIGH), Check.THROWS);
+        due("15 k 2", x.drawn(2, 0), Face.THROWS);
+        due("15 k -1", x.drawn(-1, 0), Face.THROWS);
+        due("15 k low", x.drawn(LOW, 0), Face.THROWS);
+        due("15 k high", x.drawn(HIGH, 0), Face.THROWS);
+        due("15 what 6", x.drawn(0, 6), Face.THROWS);
+        due("15 what -1", x.drawn(0, -1), Face.THROWS);
+        due("15 what high", x.drawn(0, HIGH), Face.THROWS);
         due("15 nothing changed", x.count(4), 2);
-        due("15 nothing changed", Check.drawn(x, 0, 3), 7);
+        due("15 nothing changed", x.drawn(0, 3), 7);
     }
 
     private static void promise16() {
-        WellCourt x = Check.courtWith("turns 0: a 1, b 1;");
+        Court x = Court.with("turns 0: a 1, b 1;");
         x.well(0, 1000, 0, 1000);
         x.draw(0, 0, 10);
-        Check.days(x, 1);
+        x.days(1);
         x.take(0, 0, 20);
         x.take(0, 0, 3);
-        Check.days(x, 1);
+        x.days(1);
         x.draw(0, 0, 1);
         due("16 all", x.judge(0, 0, 2, 0, 0), 34);
         due("16 from", x.judge(0, 1, 2, 0, 0), 24);
@@ -582,9 +583,9 @@ public final class PromisesTest {
         due("16 not right", x.judge(0, 0, 2, 0, 1), 23);
         due("16 known", x.judge(0, 0, 2, HIGH, 2), 0);
         due("16 fine not below 0", x.judge(0, 0, 2, HIGH, 3), 0);
-        Check.days(x, 1);
+        x.days(1);
         x.report(1);
-        Check.days(x, 1);
+        x.days(1);
         x.report(2);
         due("16 not known yet", x.judge(0, 0, 9, 2, 2), 0);
         due("16 known on DAY 3", x.judge(0, 0, 9, 3, 2), 20);
@@ -602,14 +603,14 @@ public final class PromisesTest {
         due("16 clan -1", x.judge(-1, 0, 9, 4, 0), NONE);
         due("16 what 4", x.judge(0, 0, 9, 4, 4), NONE);
         due("16 what -1", x.judge(0, 0, 9, 4, -1), NONE);
-        Check.days(x, 2);
+        x.days(2);
         x.draw(0, 0, 100);
         due("16 drawn by day 6", x.judge(0, 0, 9, 5, 3), 35);
         due("16 drawn by day 6", x.judge(0, 0, 9, 6, 3), 0);
     }
 
     private static void promise17() {
-        WellCourt x = Check.courtWith("turns 0: a 1;");
+        Court x = Court.with("turns 0: a 1;");
         x.well(0, 1000, 0, 1000);
         due("17 h 4", x.herd(4, 0, 1, 1, 0), false);
         due("17 h -1", x.herd(-1, 0, 1, 1, 0), false);
@@ -629,19 +630,19 @@ public final class PromisesTest {
         due("17 anew", x.herd(0, 1, 1, 3, 0), true);
         due("17 herds", x.count(3), 2);
         due("17 drop", x.drop(3), true);
-        due("17 it drank on DAY and lasts 3", Check.plan(x, 3, 50000), 0);
-        due("17 not 4", Check.plan(x, 4, 50000), 1);
-        Check.days(x, 1);
-        due("17 one day later", Check.plan(x, 2, 50000), 0);
-        due("17 one day later", Check.plan(x, 3, 50000), 1);
+        due("17 it drank on DAY and lasts 3", x.plan(3, 50000), 0);
+        due("17 not 4", x.plan(4, 50000), 1);
+        x.days(1);
+        due("17 one day later", x.plan(2, 50000), 0);
+        due("17 one day later", x.plan(3, 50000), 1);
         due("17 wrong, so not anew", x.herd(0, 1, 1, 30, 0), false);
-        due("17 still so", Check.plan(x, 3, 50000), 1);
+        due("17 still so", x.plan(3, 50000), 1);
         due("17 anew", x.herd(0, 1, 1, 3, 0), true);
-        due("17 it drank on DAY", Check.plan(x, 3, 50000), 0);
+        due("17 it drank on DAY", x.plan(3, 50000), 0);
     }
 
     private static void promise18() {
-        WellCourt x = Check.courtWith("turns 0: a 1;");
+        Court x = Court.with("turns 0: a 1;");
         x.well(0, 1000, 0, 1000);
         due("18 none", x.drop(0), false);
         x.herd(0, 0, 1, 1, 0);
@@ -649,17 +650,17 @@ public final class PromisesTest {
         due("18 -1", x.drop(-1), false);
         due("18 4", x.drop(4), false);
         due("18 1", x.drop(1), false);
-        due("18 herd 2 thirsts", Check.plan(x, 2, 100), 1);
+        due("18 herd 2 thirsts", x.plan(2, 100), 1);
         due("18 2", x.drop(2), true);
         due("18 again", x.drop(2), false);
         due("18 herds", x.count(3), 1);
-        due("18 none thirsts", Check.plan(x, 2, 100), 0);
+        due("18 none thirsts", x.plan(2, 100), 0);
         due("18 0", x.drop(0), true);
-        due("18 no herd", Check.plan(x, 2, 100), NONE);
+        due("18 no herd", x.plan(2, 100), NONE);
     }
 
     private static void promise19() {
-        WellCourt x = Check.courtWith("turns 1: a 1;");
+        Court x = Court.with("turns 1: a 1;");
         x.well(0, 10, 0, 10);
         x.well(1, 10, 0, 10);
         due("19 the same", x.way(2, 2, 1), false);
@@ -672,26 +673,26 @@ public final class PromisesTest {
         due("19 none there", x.way(4, 5, 9), true);
         due("19 none", x.way(4, 3, 0), true);
         x.herd(0, 0, 1, 1, 0);
-        due("19 no way", Check.plan(x, 2, 100), 1);
+        due("19 no way", x.plan(2, 100), 1);
         due("19 the other way", x.way(1, 0, 1), true);
-        due("19 each way by itself", Check.plan(x, 2, 100), 1);
+        due("19 each way by itself", x.plan(2, 100), 1);
         due("19 too long", x.way(0, 1, 2), true);
-        due("19 too long", Check.plan(x, 2, 100), 1);
+        due("19 too long", x.plan(2, 100), 1);
         due("19 1 day", x.way(0, 1, 1), true);
         x.herd(0, 0, 1, 2, 0);
-        due("19 there is a way", Check.plan(x, 3, 100), 0);
+        due("19 there is a way", x.plan(3, 100), 0);
         due("19 wrong", x.way(0, 1, 10), false);
-        due("19 it stays", Check.plan(x, 3, 100), 0);
+        due("19 it stays", x.plan(3, 100), 0);
         due("19 none", x.way(0, 1, 0), true);
-        due("19 there is none", Check.plan(x, 3, 100), 1);
+        due("19 there is none", x.plan(3, 100), 1);
     }
 
     private static void promise23() {
-        WellCourt x = Check.courtWith("turns 0: a 1; wed a b;");
+        Court x = Court.with("turns 0: a 1; wed a b;");
         x.well(0, 10, 0, 10);
         x.well(4, 10, 0, 10);
         x.well(5, 10, 0, 10);
-        Check.days(x, 6);
+        x.days(6);
         for (int h = 0; h < 4; h++) {
             x.herd(h, 0, 1, 3, 0);
         }
