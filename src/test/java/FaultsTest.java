@@ -13,7 +13,7 @@ public final class FaultsTest {
         Check.finish();
     }
 
-    private static void fault(String text, int kind, int place) {
+    static void fault(String text, int kind, int place) {
         Court x = Court.with("turns 5: f 1; wed a b; wed b c;");
         Check.due("rights of '" + text + "'", x.read(text), -1 - place);
         Check.due("fault of '" + text + "'", x.fault(), kind);
