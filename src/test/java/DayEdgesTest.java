@@ -33,10 +33,16 @@ public final class DayEdgesTest {
         droughtInPlaceOfNone();
         droughtOfAWellThatIsNotThere();
         droughtOnTheLastDay();
+        droughtOfEachWell();
+        droughtTheTwentiethRule();
         wedEitherWay();
+        wedToSeveral();
         dryWhenTheMorningIsZero();
+        dryFromEachToEach();
+        dryFromSeveral();
         dryOfAWellThatIsNotThere();
         guestOfTheOwner();
+        guestOfEachAtEach();
         waterOfWhat();
         waterOfWells();
         mayOfWellsAndClans();
@@ -475,7 +481,49 @@ public final class DayEdgesTest {
         due("199 is not", x.owner(0, 199), 0);
     }
 
+    /** "WELL: a NUMBER 0 to 5", "CLAN: a WORD of one letter, a to f", of drought */
+    private static void droughtOfEachWell() {
+        for (int w = 0; w < 6; w++) {
+            Court x = new Court();
+            for (int v = 0; v < 6; v++) {
+                x.well(v, 10, 1, 0);
+            }
+            x.read("drought " + w + " below 2 " + (char) ('a' + w) + ";");
+            for (int day = 0; day < 3; day++) {
+                for (int v = 0; v < 6; v++) {
+                    due("owner of " + v, x.owner(v, day), v == w && day < 2 ? w : NONE);
+                    due("it is right", x.may(v, w), v == w && day < 2 ? 1 : 0);
+                }
+                x.days(1);
+            }
+            due("it stays", x.owner(w, 1), w);
+        }
+    }
+
+    private static void droughtTheTwentiethRule() {
+        Court x = withWell(0, 10, 0, 5);
+        due("rights", x.read("drought 0 below 5 a;".repeat(19) + "drought 0 below 6 f;"), 20);
+        due("the twentieth", x.owner(0, 0), 5);
+    }
+
     // ---- RIGHT and GUEST
+
+    /** One CLAN may be wed to all others. */
+    private static void wedToSeveral() {
+        for (int clan = 0; clan < 6; clan++) {
+            StringBuilder text = new StringBuilder("turns 0: " + (char) ('a' + clan) + " 1;");
+            for (int other = 0; other < 6; other++) {
+                if (other != clan) {
+                    text.append("wed ").append((char) ('a' + (other < 3 ? clan : other))).append(' ').append((char) ('a' + (other < 3 ? other : clan))).append(';');
+                }
+            }
+            Court x = withWell(0, 10, 0, 10);
+            due("rights", x.read(text.toString()), 6);
+            for (int other = 0; other < 6; other++) {
+                due("all are right", x.may(0, other), 1);
+            }
+        }
+    }
 
     /** "or wed to the OWNER (either way)" */
     private static void wedEitherWay() {
@@ -526,6 +574,43 @@ public final class DayEdgesTest {
         due("it has grown to 1", y.may(0, 1), 0);
     }
 
+    private static void dryFromEachToEach() {
+        for (int from = 0; from < 6; from++) {
+            for (int to = 0; to < 6; to++) {
+                if (from == to) {
+                    continue;
+                }
+                Court x = new Court();
+                StringBuilder text = new StringBuilder();
+                for (int w = 0; w < 6; w++) {
+                    x.well(w, 10, 0, 0);
+                    text.append("turns ").append(w).append(": ").append((char) ('a' + w)).append(" 1;");
+                }
+                due("rights", x.read(text + "dry " + from + " to " + to + ";"), 7);
+                for (int w = 0; w < 6; w++) {
+                    for (int clan = 0; clan < 6; clan++) {
+                        due("dry " + from + " to " + to, x.may(w, clan), clan == w || w == to && clan == from ? 1 : 0);
+                    }
+                }
+            }
+        }
+    }
+
+    /** Several rules may lead to one WELL, and several from one. */
+    private static void dryFromSeveral() {
+        Court x = new Court();
+        for (int w = 0; w < 6; w++) {
+            x.well(w, 10, 0, w == 2 ? 5 : 0);
+        }
+        x.read("turns 0: a 1;turns 1: b 1;turns 2: c 1;turns 3: d 1;turns 5: f 1; dry 0 to 2; dry 1 to 2; dry 5 to 2; dry 0 to 3; dry 2 to 3;");
+        due("from 0", x.may(2, 0), 1);
+        due("from 1", x.may(2, 1), 1);
+        due("from 3", x.may(2, 3), 0);
+        due("from 5", x.may(2, 5), 1);
+        due("from 0 to another", x.may(3, 0), 1);
+        due("one that is not dry", x.may(3, 2), 0);
+    }
+
     private static void dryOfAWellThatIsNotThere() {
         Court x = withWell(0, 10, 0, 10);
         x.read("turns 0: a 1; turns 1: b 1; dry 1 to 0;");
@@ -557,6 +642,26 @@ public final class DayEdgesTest {
         x.read("turns 0: b 1; drought 0 below 11 a; guest c at 0 of a 5; guest e at 0 of b 5;");
         due("of the drought's CLAN", x.may(0, 2), 2);
         due("not of the other", x.may(0, 4), 0);
+    }
+
+    private static void guestOfEachAtEach() {
+        for (int guest = 0; guest < 6; guest++) {
+            int host = 5 - guest;
+            for (int at = 0; at < 6; at++) {
+                Court x = new Court();
+                StringBuilder text = new StringBuilder();
+                for (int w = 0; w < 6; w++) {
+                    x.well(w, 10, 0, 10);
+                    text.append("turns ").append(w).append(": ").append((char) ('a' + host)).append(" 1;");
+                }
+                x.read(text + "guest " + (char) ('a' + guest) + " at " + at + " of " + (char) ('a' + host) + " 1;");
+                for (int w = 0; w < 6; w++) {
+                    for (int clan = 0; clan < 6; clan++) {
+                        due("guest", x.may(w, clan), clan == host ? 1 : clan == guest && w == at ? 2 : 0);
+                    }
+                }
+            }
+        }
     }
 
     // ---- Promises 8 and 10

@@ -16,6 +16,7 @@ public final class PlanEdgesTest {
         herdsAreAtWellsThatAreThere();
         herdAnew();
         herdsDrankOnDay();
+        eachHerdAtEachWell();
         dropWhatIsThere();
         waysBetweenWells();
         waysAreOneToNineDays();
@@ -37,6 +38,7 @@ public final class PlanEdgesTest {
         whatCantBeDoneIsNoLook();
         goodUpToLast();
         backToTheLatestHerd();
+        whatWasDrunkOnABadDayComesBack();
         herdByHerd();
         fromTheLevelOfDay();
         levelsGoOnUpToCap();
@@ -199,6 +201,29 @@ public final class PlanEdgesTest {
         due("anew", x.herd(0, 0, 1, 3, 1), true);
         plan(x, 3, 9, 0, 3, 3);
         plan(x, 4, 9, 1, 4, 3);
+    }
+
+    /** What is told of one HERD holds of each of the four, at each WELL. */
+    private static void eachHerdAtEachWell() {
+        for (int h = 0; h < 4; h++) {
+            for (int w = 0; w < 6; w++) {
+                Court x = Court.with("turns " + w + ": f 1;");
+                for (int v = 0; v < 6; v++) {
+                    x.well(v, 1000, 0, 100);
+                }
+                x.days(2);
+                due("herd", x.herd(h, 5, 100, 3, w), true);
+                x.days(1);
+                // 0 1 1 1 1(bad), 1 0 1 1 1 1(bad), 1 0 1 1 1 1(bad), 1(bad)
+                plan(x, 7, MOST_LOOKS, 1, 5 + 6 + 6 + 1, 6);
+                // 0 1 1 1 1(bad), 1 0 1 1 1
+                plan(x, 5, MOST_LOOKS, 0, 5 + 5, 5);
+                steps(x, h, 4, "10111");
+                for (int other = 0; other < 4; other++) {
+                    due("no other", x.step(other, 4), other == h ? 1 : NONE);
+                }
+            }
+        }
     }
 
     // ---- Promise 18
@@ -582,6 +607,21 @@ public final class PlanEdgesTest {
         due("the first herd leaves both to the other", x.plan(4, MOST_LOOKS), 0);
         steps(x, 0, 1, "1111");
         steps(x, 1, 1, "0101");
+    }
+
+    /** "a DAY that is not good leads back": with the LEVEL as it was ahead of what is done otherwise */
+    private static void whatWasDrunkOnABadDayComesBack() {
+        Court x = Court.with("turns 0: a 1;");
+        x.well(0, 10, 0, 3);
+        x.herd(1, 0, 2, 1, 0);
+        x.days(1);
+        x.herd(0, 0, 2, 9, 0);
+        x.herd(3, 0, 1, 9, 0);
+        // herd 0 drinks, so herd 1 thirsts, whatever herd 3 does: 0 1 0(bad), 1(bad), and 1 0 0
+        plan(x, 1, 99, 0, 7, 1);
+        steps(x, 0, 2, "1");
+        steps(x, 1, 2, "0");
+        steps(x, 3, 2, "0");
     }
 
     /** "HERD by HERD": what the first drinks, the next has not */
