@@ -92,6 +92,7 @@ final class Court implements Face {
         try {
             return asked().drawn(k, what);
         } catch (NoSuchElementException e) {
+            Check.due("what drawn throws", e.getClass().getName(), "java.util.NoSuchElementException");
             return THROWS;
         }
     }
@@ -121,6 +122,7 @@ final class Court implements Face {
         try {
             return asked().plan(n, looks);
         } catch (IllegalArgumentException e) {
+            Check.due("what plan throws", e.getClass().getName(), "java.lang.IllegalArgumentException");
             return THROWS;
         }
     }

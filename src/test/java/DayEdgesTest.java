@@ -25,6 +25,7 @@ public final class DayEdgesTest {
         rightsTellDayAndAllBehind();
         rightsOnTheLastDay();
         whatWasLentIsForgotten();
+        withAFaultEveryRuleStays();
         droughtBelowMany();
         droughtTheFirstThatHolds();
         droughtOnThatDayAlone();
@@ -363,6 +364,28 @@ public final class DayEdgesTest {
         due("a fault", x.read("turns 0: a 1, b 1"), -18);
         due("with a FAULT all stays", x.owner(0, 8), 1);
         due("with a FAULT all stays", x.owner(0, 9), 0);
+    }
+
+    /** "-1 - the place of a FAULT: all stays": rules of each kind, on DAY and on DAYS behind it */
+    private static void withAFaultEveryRuleStays() {
+        Court x = new Court();
+        x.well(0, 100, 5, 10);
+        x.well(1, 100, 0, 0);
+        x.read("turns 0: a 1, b 1; turns 1: c 1; drought 0 below 16 d; wed d e; guest f at 0 of d 9; dry 1 to 0;");
+        for (int day = 0; day < 4; day++) {
+            for (String text : new String[] {"#", "turns 0: f 1; drought 0 below 1000 f; wed a f; guest e at 0 of f 3; dry 0 to 1;;"}) {
+                due("a fault", x.read(text) < 0, true);
+            }
+            boolean isDrought = day < 2;
+            int owner = isDrought ? 3 : day % 2;
+            due("OWNER", x.owner(0, day), owner);
+            due("OWNER is RIGHT", x.may(0, owner), 1);
+            due("wed", x.may(0, 4), isDrought ? 1 : 0);
+            due("GUEST", x.may(0, 5), isDrought ? 2 : 0);
+            due("OWNER of a dry WELL", x.may(0, 2), 1);
+            due("rules", x.count(2), 6);
+            x.days(1);
+        }
     }
 
     // ---- drought

@@ -37,6 +37,8 @@ public final class DrawEdgesTest {
         judgeKnownOnDay();
         judgeRightAsKnownThen();
         judgeNotBelowZero();
+        judgeOfAGuest();
+        judgeTellsWhatWasSo();
         judgeTheMost();
         judgeWithoutDraws();
         Check.finish();
@@ -519,6 +521,38 @@ public final class DrawEdgesTest {
             x.draw(0, 0, right);
             due("twice 10 less " + right, x.judge(0, 0, 0, 0, 3), Math.max(0, 20 - right));
         }
+    }
+
+    /** "Those by draw() are RIGHT (a GUEST's, too)": so they lessen what 3 is, and are not in what 1 is */
+    private static void judgeOfAGuest() {
+        Court x = Court.with("turns 0: a 1; guest b at 0 of a 5;");
+        x.well(0, 1000, 0, 1000);
+        due("as GUEST", x.draw(0, 1, 5), 0);
+        due("against the law", x.take(0, 1, 4), 0);
+        x.report(1);
+        int[] want = {9, 4, 4, 3};
+        for (int what = 0; what < 4; what++) {
+            due("what " + what, x.judge(1, 0, 0, 0, what), want[what]);
+        }
+    }
+
+    /** RIGHT and KNOWN are told of each draw as it was: other RIGHTS behind it change nothing. */
+    private static void judgeTellsWhatWasSo() {
+        Court x = Court.with("turns 0: a 1;");
+        x.well(0, 1000, 0, 1000);
+        due("draw", x.draw(0, 0, 7), 0);
+        due("take", x.take(0, 1, 30), 0);
+        x.report(1);
+        for (String text : new String[] {"turns 0: b 1;", "", "turns 0: c 1; guest b at 0 of c 900;"}) {
+            x.read(text);
+            due("it was RIGHT", x.drawn(0, 4), 1);
+            due("it was not", x.drawn(1, 4), 0);
+            due("a, without being RIGHT", x.judge(0, 0, 0, 0, 1), 0);
+            due("b, without being RIGHT", x.judge(1, 0, 0, 0, 1), 30);
+            due("b, twice", x.judge(1, 0, 0, 0, 3), 60);
+        }
+        due("a draws all the same", x.take(0, 0, 1), 0);
+        due("a, without being RIGHT", x.judge(0, 0, 0, 0, 1), 1);
     }
 
     private static void judgeTheMost() {

@@ -11,8 +11,8 @@ public final class FaceTest {
     private static final String[] FACE = {
         "int feed(int,int,int,int,int)", "boolean end(int)", "boolean well(int,int,int,int)", "int rights()", "int fault()",
         "boolean next()", "int water(int,int)", "int owner(int,int)", "int may(int,int)", "int lend(int,int,int)",
-        "int draw(int,int,int)", "int take(int,int,int)", "boolean report(int)", "int drawn(int,int)", "int judge(int,int,int,int,int)",
-        "boolean herd(int,int,int,int,int)", "boolean drop(int)", "boolean way(int,int,int)", "int plan(int,int)", "int step(int,int)",
+        "int draw(int,int,int)", "int take(int,int,int)", "boolean report(int)", "int drawn(int,int) throws java.util.NoSuchElementException", "int judge(int,int,int,int,int)",
+        "boolean herd(int,int,int,int,int)", "boolean drop(int)", "boolean way(int,int,int)", "int plan(int,int) throws java.lang.IllegalArgumentException", "int step(int,int)",
         "int far()", "int count(int)"};
 
     public static void main(String[] args) {
@@ -46,7 +46,11 @@ public final class FaceTest {
         for (Class<?> type : method.getParameterTypes()) {
             text.append(text.charAt(text.length() - 1) == '(' ? "" : ",").append(type.getName());
         }
-        return text + ")";
+        text.append(")");
+        for (Class<?> thrown : method.getExceptionTypes()) {
+            text.append(" throws ").append(thrown.getName());
+        }
+        return text.toString();
     }
 
     private static void fields(Class<?> of) {

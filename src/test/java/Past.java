@@ -2,6 +2,8 @@
 enum Past {
     /** Something of everything: wells, rights, loans, draws, herds, ways, a plan found, one not found, a fault, a tape. */
     RICH,
+    /** As rich, but without a fault so far: what the first one would change is seen. */
+    NO_FAULT,
     /** As rich, on the last day. */
     LAST_DAY,
     /** With 300 draws. */
@@ -18,9 +20,17 @@ enum Past {
 
     void lead(Face x) {
         switch (this) {
-            case RICH -> rich(x, 2);
+            case RICH -> {
+                rich(x, 2);
+                fault(x);
+            }
+            case NO_FAULT -> {
+                rich(x, 2);
+                x.text(NEXT_RULES);
+            }
             case LAST_DAY -> {
                 rich(x, 194);
+                fault(x);
                 x.days(4);
             }
             case FULL_LEDGER -> fullLedger(x);
@@ -65,6 +75,9 @@ enum Past {
         done(x.take(2, 1, 8), 0);
         x.herd(0, 0, 8, 2, 0);
         done(x.plan(4, 5), 2);
+    }
+
+    private static void fault(Face x) {
         done(x.read("turns 0: a 1; wed b b;"), -21);
         x.text(NEXT_RULES);
     }

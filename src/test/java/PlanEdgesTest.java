@@ -22,6 +22,7 @@ public final class PlanEdgesTest {
         waysAreOneToNineDays();
         waysEachByItself();
         waysOfWellsThatAreNotThere();
+        eachWayOfThirty();
         planOfOneToFourteenDays();
         planUpToDay199();
         planWithoutHerds();
@@ -323,6 +324,29 @@ public final class PlanEdgesTest {
         x.read("turns 0: a 1; turns 5: a 1;");
         due("now it is a's", x.plan(3, MOST_LOOKS), 0);
         steps(x, 0, 1, "170");
+    }
+
+    /** "The WAY from WELL u to v is so many DAYS", "2 and more goes to WELL what - 2, 9 is under way" */
+    private static void eachWayOfThirty() {
+        for (int u = 0; u < 6; u++) {
+            for (int v = 0; v < 6; v++) {
+                if (u == v) {
+                    continue;
+                }
+                Court x = Court.with("turns " + v + ": a 1;");
+                for (int w = 0; w < 6; w++) {
+                    x.well(w, 1000, 0, 1000);
+                }
+                int days = 1 + (6 * u + v) % 9;
+                x.herd(2, 0, 1, days, u);
+                due("without a way", x.plan(days + 1, MOST_LOOKS), 1);
+                due("way", x.way(u, v, days), true);
+                due("with a way", x.plan(days + 1, MOST_LOOKS), 0);
+                steps(x, 2, 1, (char) ('2' + v) + "9".repeat(days - 1) + "0");
+                due("no way", x.way(u, v, 0), true);
+                due("without a way", x.plan(days + 1, MOST_LOOKS), 1);
+            }
+        }
     }
 
     // ---- Promise 20

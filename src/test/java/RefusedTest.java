@@ -121,7 +121,7 @@ public final class RefusedTest {
         String[] texts = {"turns 0: f 1; turns 1: f 1; wed f a; drought 0 below 1000 f; dry 1 to 0; guest c at 0 of f 1; #",
             "turns 0: f 1; turns 1: f 1; wed f a; drought 0 below 1000 f", "turns 0: f 1; wed f f;", "wed a b;".repeat(21), "",
             "turns 0: a 1;turns 0: a 1;", "turns 0: f 1,a 1,b 1,c 1,d 1,e 1,f 1,a 1,b 1;"};
-        for (Past past : new Past[] {Past.RICH, Past.LAST_DAY, Past.FULL_LEDGER, Past.NEW}) {
+        for (Past past : new Past[] {Past.RICH, Past.NO_FAULT, Past.LAST_DAY, Past.FULL_LEDGER, Past.NEW}) {
             for (String text : texts) {
                 for (int part = 0; part < Seen.PARTS; part++) {
                     Court x = court(past);
